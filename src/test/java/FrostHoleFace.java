@@ -61,7 +61,7 @@ public final class FrostHoleFace {
     private static void checkSource() throws IOException {
         String source = Files.readString(Path.of("src/main/java/FrostHole.java"));
         String code = source.replaceAll("(?s)/\\*.*?\\*/", "").replaceAll("//[^\n]*", "");
-        Matcher forbidden = Pattern.compile("\\b(throw|throws|try|catch|synchronized|assert|package|Exact|System\\.(?!arraycopy))\\b|->|::")
+        Matcher forbidden = Pattern.compile("\\b(throw|throws|try|catch|synchronized|assert|package|\\w+Exact|System\\.(?!arraycopy))\\b|->|::")
             .matcher(code);
         while (forbidden.find()) wrong("the source has " + forbidden.group());
         for (char sign : source.toCharArray()) {

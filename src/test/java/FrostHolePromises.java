@@ -55,6 +55,8 @@ public final class FrostHolePromises {
         due("finding", 1, x.count(8));
         due("no stroke", NONE, x.judged());
         due("no cell", BAD, x.thick(0, 0));
+        due("whole tool", 99, new FrostHole().left(0));
+        due("no clear cell", 0, new FrostHole().state(0, 2));
         due("NONE", NONE, FrostHole.NONE);
         due("BAD", BAD, FrostHole.BAD);
         due("NOT", NOT, FrostHole.NOT);
@@ -95,6 +97,8 @@ public final class FrostHolePromises {
         due("road stays", 2, x.count(1));
         due("road", 2, x.wipe(1));
         due("empty road", 0, x.wipe(1));
+        due("empty pane is well", NONE, x.fault(0));
+        due("empty road is well", NONE, x.fault(1));
         tell(x, 0, "9");
         due("anew", 9, x.thick(0, 0));
     }
@@ -293,6 +297,11 @@ public final class FrostHolePromises {
         due("high cell", BAD, x.thick(0, 32));
         due("not in the row", BAD, x.thick(0, 3));
         due("no such row", BAD, x.thick(0, 16));
+        x.stroke(2, 9);
+        due("thin one cleared", 0, x.thick(3, 9));
+        x.tool(2, 1, 7);
+        due("stroke not done", 3, x.thick(3, 0));
+        due("thin one not done", 1, x.thick(3, 9));
     }
 
     private static void p13() {
@@ -319,6 +328,8 @@ public final class FrostHolePromises {
         due("high what", BAD, x.state(0, 3));
         x.tool(0, 0, 60);
         due("slower", 180, x.state(2, 0));
+        tell(x, 1, "?");
+        due("faulty road", 0, x.state(0, 1));
         tell(x, 0, "5");
         due("faulty", 0, x.state(3, 0));
         due("faulty clear", 0, x.state(3, 2));
@@ -355,8 +366,13 @@ public final class FrostHolePromises {
         due("straight behind", 2, x.risk(1));
         due("low", BAD, x.risk(-1));
         due("high", BAD, x.risk(3));
+        tell(x, 1, "rs");
+        for (int kind = 1; kind <= 3; kind++) {
+            x.looks(kind, 9, kind + 1);
+            due("kind " + kind, kind + 1, x.risk(kind + 1));
+        }
         x.undo(1);
-        due("undone", BAD, x.risk(2));
+        due("undone", BAD, x.risk(4));
         tell(x, 1, "?");
         due("faulty road", BAD, x.risk(0));
     }
@@ -398,6 +414,14 @@ public final class FrostHolePromises {
         due("high i", BAD, x.first(0, 32));
         x.wipe(1);
         due("no road", 0, x.first(0, NONE));
+        // 3 by 2, 5 by 3, 8 by 5: the second, then the third.
+        FrostHole y = with("235", ".");
+        y.looks(0, 0, 3);
+        y.looks(0, 1, 5);
+        y.looks(0, 2, 8);
+        due("most a second", 1, y.first(0, 0));
+        due("then", 2, y.first(0, 1));
+        due("least a second", 0, y.first(0, 2));
     }
 
     private static void p18() {
@@ -450,6 +474,7 @@ public final class FrostHolePromises {
         FrostHole y = with("22", "");
         due("melted already", 6, y.warm(4, 2, 1));
         due("ends as it melts", 4, with("2", "").warm(2, 2, 1));
+        due("thin pane", 60, with("101", "").warm(60, 3, 0));
         due("clear pane", 0, with("00", "").warm(60, 3, 1));
         due("empty pane", 0, new FrostHole().warm(60, 3, 0));
     }
@@ -492,6 +517,8 @@ public final class FrostHolePromises {
         due("high k", BAD, x.melts(0, 0, 100));
         x.stroke(0, 8);
         due("behind strokes", 0, x.melts(10, 0, 1));
+        due("coldest water", 0, x.melts(0, 0, 99));
+        due("thickest", 1, with("9", "").melts(10, 30, 9));
     }
 
     private static void p22() {
@@ -509,6 +536,8 @@ public final class FrostHolePromises {
         due("late", NONE, x.again(5, 9, 60, 1));
         // 168 behind minute 41, then 2 less each minute: 12 behind minute 119, 10 behind 120.
         due("just in time", 120, x.again(4, 6, 42, 1));
+        // 99 behind minute 32, then 1 less each minute: 11 behind minute 120.
+        due("just not in time", NONE, x.again(3, 4, 33, 1));
         due("low people", BAD, x.again(0, 0, 0, 0));
         due("high people", BAD, x.again(6, 0, 0, 0));
         due("low b", BAD, x.again(1, -1, 0, 0));
@@ -577,6 +606,8 @@ public final class FrostHolePromises {
         due("sticks surely", 0, x.cover(3, 0, 16, 42));
         due("sticks surely, worth", 1, x.cover(3, 0, 16, 41));
         due("dearest", 0, x.cover(16, 9999, 16, 9999));
+        due("cloud alone", 1, x.cover(0, 29, 0, 0));
+        due("cloud alone, like", 0, x.cover(0, 30, 0, 0));
         x.tool(0, 0, 6);
         due("by the card", 1, x.cover(3, 42, 0, 0));
         due("low p", BAD, x.cover(-1, 0, 0, 0));
@@ -670,6 +701,7 @@ public final class FrostHolePromises {
         x.stroke(0, 0);
         due("behind strokes", 0, x.bend(1, 0, 99));
         due("most", 0, x.bend(0, 999, 99));
+        due("free risk", 0, x.bend(0, 0, 0));
         due("low stretch", BAD, x.bend(-1, 0, 0));
         due("high stretch", BAD, x.bend(2, 0, 0));
         due("low w", BAD, x.bend(0, -1, 0));
@@ -844,6 +876,9 @@ public final class FrostHolePromises {
         due("bytes all the same", 6, x.count(2));
         due("bytes all the same", 4, x.count(3));
         due("none done", 0, x.count(5));
+        FrostHole y = with("1", "");
+        y.stroke(0, 0);
+        due("thin one done", 1, y.count(5));
     }
 
     private static void p38() {
@@ -864,6 +899,16 @@ public final class FrostHolePromises {
         FrostHole empty = new FrostHole();
         due("empty", digestOf(empty), empty.digest());
         due("faulty", digestOf(with("1;", "q")), with("1;", "q").digest());
+        String[] panes = {"3333", "332", "111111", "99999999;88888888;77777777", "0", "9876;9753", "12;34;56;78"};
+        for (int i = 0; i < panes.length; i++) {
+            FrostHole y = with(panes[i], "sx.rl");
+            y.looks(3, 0, 9);
+            y.looks(3, 1, 6);
+            y.looks(4, 0, 9);
+            y.looks(4, 1, 7);
+            y.tool(0, 0, i == 0 ? 5 : 7);
+            due("digest of " + panes[i], digestOf(y), y.digest());
+        }
     }
 
     private static long digestOf(FrostHole x) {
