@@ -374,12 +374,10 @@ public final class FrostHole {
     }
 
     public int faced() {
-        boolean rises = pane.stepsUp(1);
-        boolean falls = pane.stepsUp(-1);
-        if (rises == falls) {
-            return NONE;
+        if (pane.stepsUp(1)) {
+            return 0;
         }
-        return rises ? 0 : 1;
+        return pane.stepsUp(-1) ? 1 : NONE;
     }
 
     public int bend(int stretch, int w, int a) {

@@ -1449,6 +1449,50 @@ public final class FrostHoleEdges {
         due("twice", full.digest(), full.digest());
     }
 
+    /** Objects that stand just at a bound of what digest() asks, so that any other number asked there shows. */
+    private static void digestArguments() {
+        says(38, "stop(it, 1, 3, 0 and 1)");
+        // By the scraper a THICK of 1 costs 2: a part of 1 is worth that with v = 3, not with v = 2.
+        digestIs("1 by 1", with("1", "."));
+        for (int looks = 1; looks <= 9; looks++) {
+            FrostHole x = with("9876;5432", ".");
+            for (int cell = 0; cell < 16; cell++) x.looks(0, cell, looks);
+            digestIs("looks " + looks, x);
+        }
+        says(38, "warm(20, it, 0 and 1)");
+        for (String told : new String[] {"1", "9", "999", "98765432", "22;22"}) digestIs(told, with(told, ""));
+        says(38, "tonight(6, 1, 0, it), above, below");
+        for (int cells = 1; cells <= 8; cells++) digestIs(cells + " cells", with("0".repeat(cells), ""));
+        says(38, "bend(it, 30, 2)");
+        for (int risk : new int[] {10, 11, 14, 15, 16, 17, 29, 30, 31}) {
+            FrostHole x = with("1111", "sx");
+            for (int cell = 0; cell < 4; cell++) x.looks(3, cell, Math.max(0, Math.min(9, risk - 9 * cell)));
+            due("the risk that is meant", risk, x.risk(0));
+            digestIs("risk " + risk, x);
+        }
+        says(38, "melts(30, 6, 5)");
+        for (String told : new String[] {"3", "4", "33333", "333333", "3333", "44444", "6633"}) digestIs(told, with(told, ""));
+        says(38, "cover(8, 60, 4, 90)");
+        // It costs 1320 sixteenths; TONIGHT is 64 sixteenths for each of CELLS times SECONDS: 1280, 1344.
+        FrostHole less = with("0000", "");
+        due("20: not worth it", 0, less.cover(8, 60, 4, 90));
+        digestIs("20", less);
+        FrostHole more = with("000", "");
+        more.tool(CARD, 0, 7);
+        due("21: worth it", 1, more.cover(8, 60, 4, 90));
+        digestIs("21", more);
+        says(38, "first(it, NONE to 1), lent(NONE to 1)");
+        for (int many = 0; many <= 3; many++) {
+            FrostHole x = with("32" + "1".repeat(many), ".");
+            for (int car = 0; car < many; car++) x.car(9 - car, 3);
+            digestIs(many + " of them", x);
+        }
+    }
+
+    private static void digestIs(String what, FrostHole x) {
+        due(what, wrapped(digested(x)), x.digest());
+    }
+
     private static void lastCall() {
         says(1, "An object is used for at most 512 calls: the 512th is answered");
         FrostHole x = new FrostHole();
@@ -1469,7 +1513,7 @@ public final class FrostHoleEdges {
         nights(); covers();
         streetBounds(); lentOrder(); facedWay(); bends();
         sheetSizes(); bits(); copying(); writing();
-        counts(); digests(); lastCall();
+        counts(); digests(); digestArguments(); lastCall();
         System.out.println(wrong == 0 ? "the edges of " + SENTENCES.size() + " sentences hold" : wrong + " answers are not as due");
         if (wrong != 0) System.exit(1);
     }

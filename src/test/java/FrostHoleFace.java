@@ -55,6 +55,15 @@ public final class FrostHoleFace {
         for (Class<?> inside : FrostHole.class.getDeclaredClasses()) {
             if (!Modifier.isStatic(inside.getModifiers())) wrong("not static: " + inside);
             if (inside.getDeclaredFields().length > 20) wrong("too many fields: " + inside);
+            checkParameters(inside);
+        }
+        checkParameters(FrostHole.class);
+        if (FrostHole.class.getDeclaredClasses().length > 12) wrong("too many classes");
+    }
+
+    private static void checkParameters(Class<?> of) {
+        for (Method method : of.getDeclaredMethods()) {
+            if (method.getParameterCount() > 7) wrong("too many parameters: " + method);
         }
     }
 

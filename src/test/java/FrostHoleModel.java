@@ -668,8 +668,47 @@ public final class FrostHoleModel {
         return wrong;
     }
 
-    public static void main(String[] args) {
+    /** Calls that hang on nothing but their arguments: all arguments that are well, and those just beyond. */
+    private static int everyArgument(int call, int least, int from) {
         int wrong = 0;
+        int[] most = MOST[call];
+        int[] a = new int[5];
+        Arrays.fill(a, 0, most.length, least - 1);
+        a[0] = from - 1;
+        FrostHole x = null;
+        for (int calls = 0; a[0] <= most[0] + 1 && wrong < 5; calls++) {
+            if (calls % CALLS == 0) x = new FrostHole();
+            wrong += step(x, new FrostHoleModel(), -call, call, a) ? 0 : 1;
+            int i = most.length - 1;
+            for (a[i]++; i > 0 && a[i] > most[i] + 1; a[i]++) {
+                a[i] = least - 1;
+                i--;
+            }
+        }
+        return wrong;
+    }
+
+    /** Two or three cells of every thickness, melting and scraped, second by second. */
+    private static int everyWarmth() {
+        int wrong = 0;
+        for (int thick = 0; thick < 100 && wrong < 5; thick++) {
+            for (int each : new int[] {1, 2, 3, 5, 7, 12, 31, 59, 60}) {
+                String pane = thick / 10 + ";" + thick % 10 + (thick % 3 == 0 ? ";" + thick / 20 : "");
+                FrostHole x = new FrostHole();
+                FrostHoleModel model = new FrostHoleModel();
+                for (char c : pane.toCharArray()) step(x, model, thick, 0, new int[] {0, c});
+                step(x, model, thick, 4, new int[] {3, 0, each});
+                for (int m = 1; m <= 60; m++) {
+                    wrong += step(x, model, thick, 17, new int[] {m, 3, 0}) ? 0 : 1;
+                    wrong += step(x, model, thick, 17, new int[] {m, 3, 1}) ? 0 : 1;
+                }
+            }
+        }
+        return wrong;
+    }
+
+    public static void main(String[] args) {
+        int wrong = everyArgument(18, 0, -1) + everyArgument(20, 0, 1) + everyArgument(21, 0, 0) + everyWarmth();
         for (int run = 0; run < RUNS && wrong < 20; run++) wrong += runOne(run);
         System.out.println(wrong == 0 ? "the model answers alike" : wrong + " runs answered unlike the model");
         if (wrong != 0) System.exit(1);
