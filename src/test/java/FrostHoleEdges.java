@@ -807,6 +807,15 @@ public final class FrostHoleEdges {
         due("the thick one first", 14, with("35", "").warm(10, SCRAPER, 1));
         // The 9 from 0 to 18; the 8s are 7 then: one from 18 to 32, the other, still 7, from 32 to 46.
         due("three", 46, with("898", "").warm(18, SCRAPER, 1));
+        says(19, "what melts beside the scraping needs no stroke");
+        // The 5 takes from 0 to 10 in each of these.
+        due("1, melted at 3", 10, with("51", "").warm(3, SCRAPER, 1));
+        due("2, melted at 8", 10, with("52", "").warm(4, SCRAPER, 1));
+        due("2, melted at 10, as the stroke ends", 10, with("52", "").warm(5, SCRAPER, 1));
+        due("2, still 1 at 10, melted as its stroke ends", 12, with("52", "").warm(6, SCRAPER, 1));
+        due("2, still 1 at 10", 12, with("52", "").warm(7, SCRAPER, 1));
+        due("2, still 2 at 10", 14, with("52", "").warm(11, SCRAPER, 1));
+        due("4 and 1: the 4 is 2 at 10", 14, with("541", "").warm(4, SCRAPER, 1));
         says(19, "HOLDS aside");
         FrostHole h = with("9", "");
         h.tool(SCRAPER, 1, 0);
