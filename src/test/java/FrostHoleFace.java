@@ -67,9 +67,46 @@ public final class FrostHoleFace {
         }
     }
 
+    /** Rule 4: what is named of the library is Math, System.arraycopy and Arrays.fill alone. */
+    private static void checkLibrary(String code) {
+        Matcher imports = Pattern.compile("(?m)^import .*$").matcher(code);
+        while (imports.find()) {
+            if (!imports.group().equals("import java.util.Arrays;")) wrong("the source has " + imports.group());
+        }
+        Matcher uses = Pattern.compile("\\b[A-Z]\\w*\\.\\w+(?=\\()").matcher(code);
+        Set<String> listed = Set.of("Math.max", "Math.min", "System.arraycopy", "Arrays.fill");
+        while (uses.find()) {
+            if (!listed.contains(uses.group())) wrong("the source calls " + uses.group());
+        }
+    }
+
+    /** Rule 11 and the one room: methods are short, and only constructors and fields make objects. */
+    private static void checkMethods(String code) {
+        Matcher heads = Pattern.compile("(?m)^( {4}| {8})(?!\\s)(?!.*\\bclass\\b)[^=\n;]*\\) \\{$").matcher(code);
+        int methods = 0;
+        while (heads.find()) {
+            int end = code.indexOf("\n" + heads.group(1) + "}\n", heads.end());
+            String head = heads.group().trim();
+            if (isStatement(head)) continue;
+            methods++;
+            String body = end < 0 ? "" : code.substring(heads.end(), end);
+            if (end < 0) wrong("no end is seen of " + head);
+            if (body.split("\n").length > 60) wrong("too long: " + head);
+            boolean makes = Pattern.compile("\\bnew\\b").matcher(body).find();
+            if (makes && !head.matches("(public )?[A-Z]\\w*\\(.*")) wrong("an object is made by " + head);
+        }
+        if (methods < FACE.length) wrong("only " + methods + " methods are seen");
+    }
+
+    private static boolean isStatement(String head) {
+        return head.matches("(if|for|while|switch|else|\\}).*");
+    }
+
     private static void checkSource() throws IOException {
         String source = Files.readString(Path.of("src/main/java/FrostHole.java"));
         String code = source.replaceAll("(?s)/\\*.*?\\*/", "").replaceAll("//[^\n]*", "");
+        checkLibrary(code);
+        checkMethods(code);
         Matcher forbidden = Pattern.compile("\\b(throw|throws|try|catch|synchronized|assert|package|\\w+Exact|System\\.(?!arraycopy))\\b|->|::")
             .matcher(code);
         while (forbidden.find()) wrong("the source has " + forbidden.group());
